@@ -70,17 +70,13 @@ public final class ShadowHeap {
   }
 
   public int rewrite() throws IllegalStateException {
-    if (!program.goesOnWithin()) {
-      throw new IllegalStateException("an instruction goes on at one that is not there");
-    }
+    refuseGoingOutside();
     return program.rewritten.size;
   }
 
   public int rewritten(int i, int what)
       throws IllegalStateException, IndexOutOfBoundsException, IllegalArgumentException {
-    if (!program.goesOnWithin()) {
-      throw new IllegalStateException("an instruction goes on at one that is not there");
-    }
+    refuseGoingOutside();
     if (i < 0 || i >= program.rewritten.size) {
       throw new IndexOutOfBoundsException("no such line of the rewritten program");
     }
@@ -100,9 +96,7 @@ public final class ShadowHeap {
     if (program.size() == 0) {
       throw new IllegalStateException("there are no instructions");
     }
-    if (!program.goesOnWithin()) {
-      throw new IllegalStateException("an instruction goes on at one that is not there");
-    }
+    refuseGoingOutside();
     run.begin(checked, x, y);
   }
 
@@ -186,6 +180,12 @@ public final class ShadowHeap {
         return run.listing.origins[run.line];
       default:
         throw new IllegalArgumentException("what is 0 to 2");
+    }
+  }
+
+  private void refuseGoingOutside() {
+    if (!program.goesOnWithin()) {
+      throw new IllegalStateException("an instruction goes on at one that is not there");
     }
   }
 
@@ -273,7 +273,7 @@ public final class ShadowHeap {
     /** How many bytes an instruction that loads or stores touches. */
     int widthOf(int number) {
       int operation = plain.operations[number];
-      return operation == LOAD_INT || operation == STORE_INT ? 4 : 1;
+      return operation == LOAD_BYTE || operation == STORE_BYTE ? 1 : 4;
     }
 
     private static boolean goesOnElsewhere(int operation) {

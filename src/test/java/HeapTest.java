@@ -14,6 +14,7 @@ final class HeapTest {
     releasedOnlyAsLongAsNeeded();
     allReleasedInVain();
     freedTwice();
+    quarantineOfEachRun();
     Check.end();
   }
 
@@ -180,5 +181,16 @@ final class HeapTest {
     ShadowHeap gone = run(true, "a24 a100 a100 f8 f48 f168 f8");
     Check.same("one that was released", "4 8 16", Seen.report(gone));
     due("a24 a100 a100 f8 f48 f168 a24 f8", "8 48 168 8", 0, 2);
+  }
+
+  private static void quarantineOfEachRun() {
+    ShadowHeap x = run(true, "a24 a24 a24 a24 f8 f48 f88 f128");
+    for (int round = 0; round < 3; round++) {
+      Check.same("four wait", 4, x.look(4));
+      Check.same("none is released", -2, x.shadow(1));
+      x.start(round == 1, 0, 0);
+      Check.same("none waits", 0, x.look(4));
+      x.step(1000);
+    }
   }
 }
