@@ -1,5 +1,8 @@
 /** Compares answers with those that are due and ends a test with exit code 1 if one was wrong. */
 final class Check {
+  private static final int MOST_SHOWN_OF_A_TEST = 3;
+  private static String test = "";
+  private static int wrongInTest = 0;
   private static int done = 0;
   private static int wrong = 0;
 
@@ -7,6 +10,12 @@ final class Check {
 
   interface Call {
     void run();
+  }
+
+  /** Names the test that the checks which follow belong to. */
+  static void begin(String name) {
+    test = name + ": ";
+    wrongInTest = 0;
   }
 
   static void same(String what, long due, long got) {
@@ -23,8 +32,27 @@ final class Check {
     }
   }
 
+  static void holds(String what, boolean got) {
+    done++;
+    if (!got) {
+      note(what + " does not hold");
+    }
+  }
+
+  static void state(String what, Call call) {
+    throwing(what, IllegalStateException.class, call);
+  }
+
+  static void argument(String what, Call call) {
+    throwing(what, IllegalArgumentException.class, call);
+  }
+
+  static void bounds(String what, Call call) {
+    throwing(what, IndexOutOfBoundsException.class, call);
+  }
+
   /** The very class is asked for: an ArrayIndexOutOfBoundsException is not one that was thrown on purpose. */
-  static void throwing(String what, Class<? extends RuntimeException> due, Call call) {
+  private static void throwing(String what, Class<? extends RuntimeException> due, Call call) {
     done++;
     try {
       call.run();
@@ -37,22 +65,11 @@ final class Check {
     note(what + " threw nothing, due is " + due.getName());
   }
 
-  static void state(String what, String condition, Call call) {
-    throwing(what + " (" + condition + ")", IllegalStateException.class, call);
-  }
-
-  static void argument(String what, String condition, Call call) {
-    throwing(what + " (" + condition + ")", IllegalArgumentException.class, call);
-  }
-
-  static void bounds(String what, String condition, Call call) {
-    throwing(what + " (" + condition + ")", IndexOutOfBoundsException.class, call);
-  }
-
   static void note(String text) {
     wrong++;
-    if (wrong <= 40) {
-      System.out.println("  " + text);
+    wrongInTest++;
+    if (wrongInTest <= MOST_SHOWN_OF_A_TEST) {
+      System.out.println("  " + test + text);
     }
   }
 

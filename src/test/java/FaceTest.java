@@ -27,26 +27,46 @@ final class FaceTest {
 
   public static void main(String[] args) {
     Class<?> face = ShadowHeap.class;
-    Check.same("public final class", "public final", Modifier.toString(face.getModifiers()));
+    Check.same("class", "public final", Modifier.toString(face.getModifiers()));
+    Constructor<?>[] constructors = face.getDeclaredConstructors();
+    Check.same("constructors", "[public ShadowHeap()]", Arrays.toString(constructors));
+    methodsOfTheFace(face);
+    for (Field field : face.getDeclaredFields()) {
+      Check.holds(field.getName() + " is private", Modifier.isPrivate(field.getModifiers()));
+    }
+    for (Class<?> inside : face.getDeclaredClasses()) {
+      int modifiers = inside.getModifiers();
+      Check.holds(inside.getName() + " is private or package-visible",
+          !Modifier.isPublic(modifiers) && !Modifier.isProtected(modifiers));
+    }
+    Check.end();
+  }
+
+  private static void methodsOfTheFace(Class<?> face) {
     Set<String> seen = new TreeSet<>();
     Set<String> names = new TreeSet<>();
     for (Method method : face.getDeclaredMethods()) {
       if (!Modifier.isPrivate(method.getModifiers())) {
         seen.add(written(method));
         names.add(method.getName());
-        Check.same(method.getName(), "public", Modifier.toString(method.getModifiers()));
+        Check.holds(method.getName() + " is public", Modifier.isPublic(method.getModifiers()));
+        Check.holds(method.getName() + " is not static", !Modifier.isStatic(method.getModifiers()));
       }
     }
     Check.same("methods", new TreeSet<>(Arrays.asList(FACE)).toString(), seen.toString());
-    Constructor<?>[] constructors = face.getDeclaredConstructors();
-    Check.same("constructors", "[public ShadowHeap()]", Arrays.toString(constructors));
-    privateBesides(face, names);
+    noPrivateMethodBearsAPublicName(face, names);
     for (Class<?> inside : face.getDeclaredClasses()) {
-      Check.same(inside.getName() + " is static", 1, Modifier.isStatic(inside.getModifiers()) ? 1 : 0);
-      Check.same(inside.getName() + " is not public", 0, Modifier.isPublic(inside.getModifiers()) ? 1 : 0);
-      privateNames(inside, names);
+      noPrivateMethodBearsAPublicName(inside, names);
     }
-    Check.end();
+  }
+
+  private static void noPrivateMethodBearsAPublicName(Class<?> type, Set<String> names) {
+    for (Method method : type.getDeclaredMethods()) {
+      if (Modifier.isPrivate(method.getModifiers())) {
+        Check.holds(type.getName() + "." + method.getName() + " bears no public name",
+            !names.contains(method.getName()));
+      }
+    }
   }
 
   private static String written(Method method) {
@@ -58,22 +78,5 @@ final class FaceTest {
       text.append(' ').append(thrown.getSimpleName());
     }
     return text.toString();
-  }
-
-  private static void privateBesides(Class<?> face, Set<String> names) {
-    for (Field field : face.getDeclaredFields()) {
-      int modifiers = field.getModifiers();
-      Check.same(field.getName() + " is private", 1, Modifier.isPrivate(modifiers) ? 1 : 0);
-      Check.same(field.getName() + " is final", 1, Modifier.isFinal(modifiers) ? 1 : 0);
-    }
-    privateNames(face, names);
-  }
-
-  private static void privateNames(Class<?> type, Set<String> names) {
-    for (Method method : type.getDeclaredMethods()) {
-      boolean hidden = type != ShadowHeap.class || Modifier.isPrivate(method.getModifiers());
-      Check.same(type.getName() + "." + method.getName() + " bears a public name", 0,
-          hidden && names.contains(method.getName()) ? 1 : 0);
-    }
   }
 }

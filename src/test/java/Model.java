@@ -6,7 +6,7 @@ import java.util.List;
  * The document written down a second time, byte by byte and without regard to speed, so that
  * ModelTest can hold the program against it. It shares no code and no way of counting with it.
  */
-final class Model {
+final class Model implements Face {
   private record Instruction(int operation, int r, int a, int b, int k) {}
 
   private record Line(int operation, int origin, int k) {}
@@ -37,7 +37,8 @@ final class Model {
     quarantine.clear();
   }
 
-  int code(int operation, int r, int a, int b, int k) {
+  @Override
+  public int code(int operation, int r, int a, int b, int k) {
     boolean registersThere = (r & ~7) == 0 && (a & ~7) == 0 && (b & ~7) == 0;
     if (operation < 0 || operation > 14 || !registersThere) {
       throw new IllegalArgumentException();
@@ -50,7 +51,8 @@ final class Model {
     return program.size() - 1;
   }
 
-  void clear() {
+  @Override
+  public void clear() {
     program.clear();
     state = 0;
   }
@@ -82,11 +84,13 @@ final class Model {
     return result;
   }
 
-  int rewrite() {
+  @Override
+  public int rewrite() {
     return rewrittenProgram().size();
   }
 
-  int rewritten(int i, int what) {
+  @Override
+  public int rewritten(int i, int what) {
     List<Line> all = rewrittenProgram();
     if (i < 0 || i >= all.size()) {
       throw new IndexOutOfBoundsException();
@@ -99,7 +103,8 @@ final class Model {
     };
   }
 
-  void start(boolean checked, int x, int y) {
+  @Override
+  public void start(boolean checked, int x, int y) {
     List<Line> all = rewrittenProgram();
     if (program.isEmpty()) {
       throw new IllegalStateException();
@@ -121,7 +126,8 @@ final class Model {
     state = 1;
   }
 
-  int step(int n) {
+  @Override
+  public int step(int n) {
     if (state == 0) {
       throw new IllegalStateException();
     }
@@ -292,7 +298,8 @@ final class Model {
     Arrays.fill(marks, block.begin, block.end, 'w');
   }
 
-  int look(int what) {
+  @Override
+  public int look(int what) {
     int run = state == 0 ? 0 : 1;
     return switch (what) {
       case 0 -> state;
@@ -305,28 +312,32 @@ final class Model {
     };
   }
 
-  int register(int r) {
+  @Override
+  public int register(int r) {
     if (r < 0 || r > 7) {
       throw new IllegalArgumentException();
     }
     return state == 0 ? 0 : registers[r];
   }
 
-  int printed(int i) {
+  @Override
+  public int printed(int i) {
     if (state == 0 || i < 0 || i >= printed.size()) {
       throw new IndexOutOfBoundsException();
     }
     return printed.get(i);
   }
 
-  int heap(int address) {
+  @Override
+  public int heap(int address) {
     if (address < 0 || address > 511) {
       throw new IndexOutOfBoundsException();
     }
     return bytes[address];
   }
 
-  int shadow(int k) {
+  @Override
+  public int shadow(int k) {
     if (k < 0 || k > 63) {
       throw new IndexOutOfBoundsException();
     }
@@ -339,7 +350,8 @@ final class Model {
     };
   }
 
-  int report(int what) {
+  @Override
+  public int report(int what) {
     if (state != 3) {
       throw new IllegalStateException();
     }

@@ -1,15 +1,23 @@
+import java.util.ArrayList;
+import java.util.List;
 import java.util.Random;
 
-/** Holds the program against the model: the same calls on both, chosen by a fixed seed. */
+/** Holds the program against the model: the same calls on both, drawn with a fixed seed. */
 final class ModelTest {
   private static final int OBJECTS = 1500;
   private static final int CALLS = 300;
+  private static final int[] ENDS = new int[5];
+
+  private record Call(String text, Answer answer) {}
+
+  private interface Answer {
+    int of(Face x);
+  }
 
   private final Random random;
-  private final ShadowHeap heap = new ShadowHeap();
   private final Model model = new Model();
-  private final StringBuilder history = new StringBuilder();
-  private static final int[] ENDS = new int[5];
+  private final List<Call> made = new ArrayList<>();
+  private Subject subject = new Subject();
 
   private ModelTest(long seed) {
     random = new Random(seed);
@@ -17,43 +25,62 @@ final class ModelTest {
 
   public static void main(String[] args) {
     for (int i = 0; i < OBJECTS && !Check.anyWrong(); i++) {
+      Check.begin("seed " + i);
       new ModelTest(i).compare();
     }
+    Check.begin("draws");
     for (int end = 1; end < ENDS.length; end++) {
       // Else the programs drawn are too tame to tell anything.
-      Check.same("runs seen in state " + end, 1, ENDS[end] > 300 ? 1 : 0);
+      Check.holds("many runs seen in state " + end, ENDS[end] > 300);
     }
     Check.end();
   }
 
-  interface Answer {
-    long of();
+  private void compare() {
+    drawProgram();
+    while (made.size() < CALLS && !Check.anyWrong()) {
+      drawCall();
+    }
+    askAll();
   }
 
-  private static String answer(Answer call) {
+  private static String answer(Face x, Call call) {
     try {
-      return "" + call.of();
+      return "" + call.answer.of(x);
     } catch (RuntimeException e) {
       return e.getClass().getSimpleName();
     }
   }
 
-  private void both(String call, Answer ofHeap, Answer ofModel) {
-    String due = answer(ofModel);
-    String got = answer(ofHeap);
-    history.append(call).append(" = ").append(due).append('\n');
-    if (!due.equals(got)) {
-      System.out.println(history);
-    }
-    Check.same(call, due, got);
+  /** A call that was made stands among those that make the object anew. */
+  private void make(String text, Answer answer) {
+    Call call = new Call(text, answer);
+    made.add(call);
+    both(call);
   }
 
-  private void compare() {
-    drawProgram();
-    for (int i = 0; i < CALLS && !Check.anyWrong(); i++) {
-      drawCall();
+  private void both(Call call) {
+    String due = answer(model, call);
+    String got = answer(subject, call);
+    if (!due.equals(got)) {
+      for (Call earlier : made) {
+        System.out.println(earlier.text);
+      }
     }
-    compareAll();
+    Check.same(call.text, due, got);
+  }
+
+  /** Asks without an end to the calls: the object is made anew when its calls are used up. */
+  private void ask(String text, Answer answer) {
+    if (subject.callsLeft() == 0) {
+      subject = new Subject();
+      for (Call call : made) {
+        answer(subject, call);
+      }
+    }
+    if (!Check.anyWrong()) {
+      both(new Call(text, answer));
+    }
   }
 
   private int below(int bound) {
@@ -102,17 +129,29 @@ final class ModelTest {
   }
 
   private void code(int operation, int r, int a, int b, int k) {
-    both("code(" + operation + ", " + r + ", " + a + ", " + b + ", " + k + ")",
-        () -> heap.code(operation, r, a, b, k), () -> model.code(operation, r, a, b, k));
+    make("code(" + operation + ", " + r + ", " + a + ", " + b + ", " + k + ")", x -> x.code(operation, r, a, b, k));
+  }
+
+  private void clear() {
+    make("clear()", x -> {
+      x.clear();
+      return 0;
+    });
   }
 
   private void start() {
     boolean checked = below(2) == 0;
-    int x = below(3) == 0 ? wildNumber() : below(100);
-    int y = below(3) == 0 ? wildNumber() : below(100);
-    both("start(" + checked + ", " + x + ", " + y + ")",
-        () -> { heap.start(checked, x, y); return 0; },
-        () -> { model.start(checked, x, y); return 0; });
+    int first = below(3) == 0 ? wildNumber() : below(100);
+    int second = below(3) == 0 ? wildNumber() : below(100);
+    make("start(" + checked + ", " + first + ", " + second + ")", x -> {
+      x.start(checked, first, second);
+      return 0;
+    });
+  }
+
+  private void step(int n) {
+    make("step(" + n + ")", x -> x.step(n));
+    ENDS[model.look(0)]++;
   }
 
   private void drawCall() {
@@ -122,8 +161,7 @@ final class ModelTest {
       case 0 -> start();
       case 1 -> {
         if (below(20) == 0) {
-          heap.clear();
-          model.clear();
+          clear();
           drawProgram();
         }
       }
@@ -132,48 +170,39 @@ final class ModelTest {
           code(below(18) - 1, below(10) - 1, below(8), below(9), wildNumber());
         }
       }
-      case 3 -> both("rewrite()", heap::rewrite, model::rewrite);
-      case 4, 5 -> both("rewritten(" + i + ", " + what + ")", () -> heap.rewritten(i, what), () -> model.rewritten(i, what));
+      case 3 -> make("rewrite()", Face::rewrite);
+      case 4, 5 -> make("rewritten(" + i + ", " + what + ")", x -> x.rewritten(i, what));
       case 6, 7, 8, 9, 10, 11 -> step(below(12));
       case 12 -> step(below(8) == 0 ? wildNumber() : below(1003));
-      case 13, 14, 15 -> both("look(" + what + ")", () -> heap.look(what), () -> model.look(what));
-      case 16, 17 -> both("register(" + what + ")", () -> heap.register(what), () -> model.register(what));
-      case 18 -> both("printed(" + i + ")", () -> heap.printed(i), () -> model.printed(i));
-      case 19, 20 -> both("heap(" + i + ")", () -> heap.heap(i), () -> model.heap(i));
-      case 21, 22, 23 -> both("shadow(" + i + ")", () -> heap.shadow(i), () -> model.shadow(i));
-      case 24, 25 -> both("report(" + what + ")", () -> heap.report(what), () -> model.report(what));
-      default -> {
-        if (below(20) == 0) {
-          compareAll();
-        }
-      }
+      case 13, 14, 15 -> make("look(" + what + ")", x -> x.look(what));
+      case 16, 17 -> make("register(" + what + ")", x -> x.register(what));
+      case 18 -> make("printed(" + i + ")", x -> x.printed(i));
+      case 19, 20 -> make("heap(" + i + ")", x -> x.heap(i));
+      case 21, 22, 23 -> make("shadow(" + i + ")", x -> x.shadow(i));
+      case 24, 25 -> make("report(" + what + ")", x -> x.report(what));
+      default -> { }
     }
   }
 
-  private void step(int n) {
-    both("step(" + n + ")", () -> heap.step(n), () -> model.step(n));
-    ENDS[model.look(0)]++;
-  }
-
-  private void compareAll() {
-    for (int i = -1; i < 513 && !Check.anyWrong(); i++) {
+  private void askAll() {
+    for (int i = -1; i < 513; i++) {
       int at = i;
-      both("heap(" + at + ")", () -> heap.heap(at), () -> model.heap(at));
+      ask("heap(" + at + ")", x -> x.heap(at));
     }
-    for (int i = -1; i < 83 && !Check.anyWrong(); i++) {
+    for (int i = -1; i < 83; i++) {
       int at = i;
-      both("shadow(" + at + ")", () -> heap.shadow(at), () -> model.shadow(at));
-      both("printed(" + at + ")", () -> heap.printed(at), () -> model.printed(at));
+      ask("shadow(" + at + ")", x -> x.shadow(at));
+      ask("printed(" + at + ")", x -> x.printed(at));
       for (int what = -1; what < 4; what++) {
         int asked = what;
-        both("rewritten(" + at + ", " + asked + ")", () -> heap.rewritten(at, asked), () -> model.rewritten(at, asked));
+        ask("rewritten(" + at + ", " + asked + ")", x -> x.rewritten(at, asked));
       }
     }
-    for (int i = -1; i < 10 && !Check.anyWrong(); i++) {
+    for (int i = -1; i < 10; i++) {
       int at = i;
-      both("look(" + at + ")", () -> heap.look(at), () -> model.look(at));
-      both("register(" + at + ")", () -> heap.register(at), () -> model.register(at));
-      both("report(" + at + ")", () -> heap.report(at), () -> model.report(at));
+      ask("look(" + at + ")", x -> x.look(at));
+      ask("register(" + at + ")", x -> x.register(at));
+      ask("report(" + at + ")", x -> x.report(at));
     }
   }
 }

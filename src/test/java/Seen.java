@@ -1,42 +1,67 @@
-/** All that can be seen of an object, as one text, to tell whether a call has changed anything. */
+import java.util.function.Supplier;
+
+/** What can be seen of an object, as text. */
 final class Seen {
   private Seen() {}
 
-  static String of(ShadowHeap x) {
+  /** All that there is to be seen, to tell whether a call has changed anything. */
+  static String everything(Supplier<Subject> recipe) {
+    Again again = new Again(recipe);
     StringBuilder all = new StringBuilder();
     for (int what = 0; what <= 5; what++) {
-      all.append(x.look(what)).append(' ');
+      all.append(again.subject().look(what)).append(' ');
     }
     for (int r = 0; r < 8; r++) {
-      all.append(x.register(r)).append(' ');
+      all.append(again.subject().register(r)).append(' ');
     }
-    for (int i = 0; i < x.look(2); i++) {
-      all.append(x.printed(i)).append(' ');
+    int prints = again.subject().look(2);
+    for (int i = 0; i < prints; i++) {
+      all.append(again.subject().printed(i)).append(' ');
     }
     for (int address = 0; address < 512; address++) {
-      all.append(x.heap(address)).append(' ');
+      all.append(again.subject().heap(address)).append(' ');
     }
-    all.append(shadowOf(x));
-    if (x.look(0) == 3) {
-      all.append(x.report(0)).append(' ').append(x.report(1)).append(' ').append(x.report(2));
+    for (int k = 0; k < 64; k++) {
+      all.append(again.subject().shadow(k)).append(' ');
     }
-    return all.append(rewrittenOf(x)).toString();
+    if (again.subject().look(0) == 3) {
+      all.append(report(recipe.get()));
+    }
+    return all.append(rewritten(recipe.get())).toString();
   }
 
-  /** The shadow up to the last number that is not WILD. */
-  static String shadowOf(ShadowHeap x) {
-    StringBuilder all = new StringBuilder();
-    int end = 64;
-    while (end > 0 && x.shadow(end - 1) == -3) {
-      end--;
+  static int[] heap(Supplier<Subject> recipe) {
+    Again again = new Again(recipe);
+    int[] bytes = new int[512];
+    for (int address = 0; address < bytes.length; address++) {
+      bytes[address] = again.subject().heap(address);
     }
-    for (int k = 0; k < end; k++) {
-      all.append(k == 0 ? "" : " ").append(x.shadow(k));
+    return bytes;
+  }
+
+  static String printed(Subject x) {
+    StringBuilder all = new StringBuilder();
+    int prints = x.look(2);
+    for (int i = 0; i < prints; i++) {
+      all.append(i == 0 ? "" : " ").append(x.printed(i));
     }
     return all.toString();
   }
 
-  static String rewrittenOf(ShadowHeap x) {
+  /** The shadow up to the last number that is not WILD. */
+  static String shadow(Subject x) {
+    StringBuilder all = new StringBuilder();
+    int end = 0;
+    for (int k = 0; k < 64; k++) {
+      int number = x.shadow(k);
+      all.append(k == 0 ? "" : " ").append(number);
+      end = number == -3 ? end : all.length();
+    }
+    return all.substring(0, end);
+  }
+
+  /** Each line of the rewritten program as operation/instruction/k. */
+  static String rewritten(Subject x) {
     StringBuilder all = new StringBuilder();
     try {
       int size = x.rewrite();
@@ -50,7 +75,7 @@ final class Seen {
     return all.toString();
   }
 
-  static String report(ShadowHeap x) {
+  static String report(Subject x) {
     return x.report(0) + " " + x.report(1) + " " + x.report(2);
   }
 }
