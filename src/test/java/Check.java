@@ -1,12 +1,32 @@
 /** Compares answers with those that are due and ends a test with exit code 1 if one was wrong. */
 final class Check {
   private static final int MOST_SHOWN_OF_A_TEST = 3;
-  private static String test = "";
+  private static final int MOST_SECONDS = 120;
+  private static volatile String test = "";
   private static int wrongInTest = 0;
   private static int done = 0;
   private static int wrong = 0;
 
+  static {
+    watch();
+  }
+
   private Check() {}
+
+  /** A call that does not end is wrong too, and must not keep the tests from ending. */
+  private static void watch() {
+    Thread watcher = new Thread(() -> {
+      try {
+        Thread.sleep(1000L * MOST_SECONDS);
+      } catch (InterruptedException e) {
+        return;
+      }
+      System.out.println("  " + test + "has not ended after " + MOST_SECONDS + " seconds");
+      Runtime.getRuntime().halt(1);
+    });
+    watcher.setDaemon(true);
+    watcher.start();
+  }
 
   interface Call {
     void run();

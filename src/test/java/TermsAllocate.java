@@ -73,8 +73,8 @@ final class TermsAllocate {
     String steps = "a1 a100 a1 a40 f8 f32 f152";
     Scenario.due(steps + " a1", "8 32 152 176 8", 2, 2);
     Scenario.due("a1 a100 a1 a40 f8 f32 f152 a9", "8 32 152 176 232", 2, 2);
-    // Two gaps, of 56 at 0 and of 40 behind a block: the lower one, though the other one is no larger than needed.
-    Scenario.due("a40 a1 a24 a1 a100 f8 f88 f152 a24", "8 64 88 128 152 8", 3, 2);
+    // Gaps of 56, 40 and 120 bytes and the rest: the second one fits best, but the first one is lower.
+    Scenario.due("a40 a1 a24 a1 a100 a100 f8 f88 f152 f272 a24", "8 64 88 128 152 272 8", 3, 1);
     // The lower one is too small by eight bytes; or by none.
     Scenario.due("a24 a1 a100 a100 f8 f72 f192 a25", "8 48 72 192 72", 2, 1);
     Scenario.due("a24 a1 a100 a100 f8 f72 f192 a24", "8 48 72 192 8", 2, 1);

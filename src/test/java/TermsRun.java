@@ -49,6 +49,23 @@ final class TermsRun {
   }
 
   @Says("It begins with an empty heap as at first, no quarantine, registers 0.")
+  static void noByteIsLeftOfTheRunBefore() {
+    Check.same("byte 0 before", 255, Scenario.onFilledHeap("a1").heap(0));
+    Check.same("byte 511 before", 255, Scenario.onFilledHeap("a1").heap(511));
+    for (int now = 0; now < 2; now++) {
+      boolean checkedNow = now == 1;
+      int[] bytes = Seen.heap(() -> {
+        Subject x = Scenario.onFilledHeap("a1");
+        x.start(checkedNow, 0, 0);
+        return x;
+      });
+      for (int address = 0; address < 512; address++) {
+        Check.same("byte " + address, 0, bytes[address]);
+      }
+    }
+  }
+
+  @Says("It begins with an empty heap as at first, no quarantine, registers 0.")
   static void whatWaitedBeforeIsForgotten() {
     Subject x = new Subject();
     Scenario.write(x, "a24 a24 a24 a24 f8 f48 f88 f128");
